@@ -36,6 +36,7 @@ public final class PromisesTest {
         about();
         told();
         count();
+        fullMountain();
         go();
         foresee();
         settles();
@@ -232,7 +233,11 @@ public final class PromisesTest {
             "go(4) 4; way(0, 3, 0) 26; setLength(2, 9) 5; way(0, 3, 0) 26; truth(0, 3) 30; go(1) 2",
             "sheet(0, 3, 0) 2; sheet(0, 2, 0) 1; way(0, 3, 0) 26; way(0, 3, 1) 3; way(2, 3, 0) 9; way(1, 3, 0) 10",
             "go(1) 0; way(0, 3, 0) 30; way(0, 3, 1) 1; way(0, 3, 2) 3");
-        run("8: from the other side",
+        run("8: the same where the pass was told from its other hut",
+            "hut(0) 0; hut(0) 1; hut(0) 2; hut(0) 3; pass(1, 0, 20) 0; pass(2, 1, 1) 1; pass(3, 2, 5) 2; pass(0, 3, 30) 3",
+            "go(4) 4; way(0, 3, 0) 26; setLength(2, 9) 5; go(1) 2; sheet(0, 3, 0) 2; sheet(0, 2, 0) 1; way(0, 3, 0) 26",
+            "way(2, 3, 0) 9; way(1, 3, 0) 10; go(1) 0; way(0, 3, 0) 30");
+        run("8: by the new sheet of the one and the old sheet of the other",
             "hut(0) 0; hut(0) 1; hut(0) 2; hut(0) 3; pass(0, 1, 90) 0; pass(1, 2, 90) 1; pass(3, 2, 5) 2; pass(3, 0, 1) 3",
             "go(4) 4; setLength(2, 9) 5; go(1) 2; way(0, 2, 0) 10; way(1, 2, 0) 90; way(1, 3, 0) 91; way(1, 3, 2) 0",
             "setLength(0, 99) 90; go(1) 2; way(1, 3, 0) 99; way(1, 3, 2) 2");
@@ -300,6 +305,24 @@ public final class PromisesTest {
         run("13: no such what", "count(7) " + INDEX, "count(-1) " + INDEX, "count(2147483647) " + INDEX);
     }
 
+    private static void fullMountain() {
+        StringBuilder full = new StringBuilder();
+        for (int hut = 0; hut < 10; hut++) {
+            full.append("hut(0) ").append(hut).append(";");
+        }
+        // A ring of ten, and from each hut another pass over two huts on.
+        for (int pass = 0; pass < 20; pass++) {
+            int to = (pass + (pass < 10 ? 1 : 3)) % 10;
+            full.append("pass(").append(pass % 10).append(", ").append(to).append(", 9) ").append(pass).append(";");
+        }
+        run("13: ten huts and twenty passes",
+            full.toString(), "count(6) 90; advise() 0; settles() 3; foresee(2, 4) 90; foresee(3, 4) 100; go(3) 10",
+            "count(4) 100; count(5) 90; told(9, 3) 10; told(9, 4) 10; about(19, 4) 10; post(0, 5) 3; post(9, 9) 0",
+            "truth(0, 5) 27; way(9, 4, 1) 3; way(9, 4, 2) 0; setLength(19, 1) 9; go(60) 30; truth(9, 2) 1; mean() 6.4");
+        run("13: a hut apart between two that are joined",
+            "hut(0) 0; hut(0) 1; hut(0) 2; pass(0, 2, 4) 0; count(6) 2; pass(2, 0, 4) 1; count(6) 2; pass(1, 2, 4) 2; count(6) 6");
+    }
+
     private static void go() {
         run("14: answers how many sheets are written",
             TWO_HUTS, "go(1) 2; go(19) 0; go(1) 2; count(0) 21; go(60) 6; count(0) 81; setLength(0, 3) 7; go(60) 6",
@@ -315,6 +338,8 @@ public final class PromisesTest {
             "foresee(60, 4) 25; count(0) 0; count(4) 0; sheet(0, 0, 0) -1; told(0, 2) 0; go(1) 5; count(4) 15",
             "setOpen(3, false) true; foresee(30, 5) 20; setOpen(0, false) true; foresee(29, 4) 23; foresee(30, 4) 17",
             "go(29) 8; count(4) 23; go(1) 0; count(4) 17; foresee(1, 4) 17");
+        run("15: sheets that would be written are newer than those that are there",
+            LINE_AND_LONG_WAY, "go(25) 10; setOpen(2, false) true; foresee(1, 5) 17; foresee(2, 5) 20; foresee(1, 5) 17");
         run("15: what is wrong, in its order",
             TWO_HUTS, "foresee(0, 4) " + ARGUMENT, "foresee(61, 5) " + ARGUMENT, "foresee(-1, 4) " + ARGUMENT,
             "foresee(0, 3) " + ARGUMENT, "foresee(61, 6) " + ARGUMENT, "foresee(1, 3) " + INDEX,
@@ -326,6 +351,9 @@ public final class PromisesTest {
             "settles() 0", LINE_AND_LONG_WAY, "settles() 2; go(1) 5; settles() 1; go(1) 0; settles() 0; count(0) 2",
             "setOpen(2, false) true; settles() 2; go(1) 2; settles() 1; go(1) 0; settles() 0; hut(0) 5; settles() 0",
             "pass(5, 2, 3) 5; settles() 5; count(0) 4; setOpen(5, false) true; settles() 0");
+        run("16: from now on, whatever was foreseen before",
+            LINE_AND_LONG_WAY, "foresee(60, 5) 20; settles() 2; settles() 2; go(30) 10; setOpen(0, false) true; settles() 2",
+            "foresee(9, 4) 25; settles() 2; burn(4) 5; settles() 2; settles() 2");
         run("16: -1 if areas keep them apart",
             "hut(1) 0; hut(2) 1; settles() 0; pass(0, 1, 1) 0; settles() -1; go(60) 6; settles() -1",
             "setOpen(0, false) true; settles() 0");
