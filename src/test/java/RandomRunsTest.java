@@ -1,12 +1,17 @@
 import java.util.ArrayList;
 import java.util.List;
 import java.util.Random;
+import java.util.Set;
 
 /** Long runs of all calls, the same ones each time, in which the class has to answer as the model does. */
 public final class RandomRunsTest {
     private static final int RUNS = 250;
-    private static final int CALLS = 400;
+    private static final int CALLS = 512;
+    private static final int ENDLESS_RUNS = 5;
+    private static final int ENDLESS_CALLS = 20_000;
     private static final int WRONG_RUNS_TOLD = 3;
+    private static final Set<String> THROWN = Set.of(
+        "throws.IndexOutOfBoundsException", "throws.IllegalArgumentException", "throws.IllegalStateException");
 
     private final Random random;
     private final int lengths;
@@ -28,6 +33,10 @@ public final class RandomRunsTest {
             check.that("run " + seed, differences);
             wrong += differences.isEmpty() ? 0 : 1;
         }
+        for (int seed = 1; seed <= ENDLESS_RUNS; seed++) {
+            check.that("no call throws by itself, beyond 512 calls too, run " + seed,
+                new RandomRunsTest(seed).thrownByItself());
+        }
         check.end();
     }
 
@@ -41,13 +50,30 @@ public final class RandomRunsTest {
             made.add(text);
             String answer = Calls.answer(x, text);
             String due = model.answer(text);
-            huts += text.startsWith("hut") && !due.startsWith("throws") ? 1 : 0;
-            passes += text.startsWith("pass") && !due.startsWith("throws") ? 1 : 0;
+            countWhatIsNew(text, due);
             if (!answer.equals(due)) {
                 return List.of("call " + made.size() + " of " + made, text + " answered " + answer + ", due is " + due);
             }
         }
         return List.of();
+    }
+
+    private List<String> thrownByItself() {
+        PassNotes x = new PassNotes();
+        for (int call = 1; call <= ENDLESS_CALLS; call++) {
+            String text = next();
+            String answer = Calls.answer(x, text);
+            countWhatIsNew(text, answer);
+            if (answer.startsWith("throws.") && !THROWN.contains(answer)) {
+                return List.of("call " + call + ": " + text + " answered " + answer);
+            }
+        }
+        return List.of();
+    }
+
+    private void countWhatIsNew(String call, String answer) {
+        huts += call.startsWith("hut") && !answer.startsWith("throws") ? 1 : 0;
+        passes += call.startsWith("pass") && !answer.startsWith("throws") ? 1 : 0;
     }
 
     private String next() {
